@@ -616,14 +616,13 @@ public final class PurserLedgers {
         }
 
         int sellFromChest(int number, int itemNumber, int many) {
-            int reason = reasonNotToSell(number, itemNumber, many);
-            if (reason != 0) {
-                return reason < 0 ? reason : NOT_POSSIBLE;
-            }
             Sailor sailor = findSailor(number);
             Item item = findItem(itemNumber);
-            if (sailor == null || item == null) {
+            if (sailor == null || item == null || !within(many, 1, MANY_AT_MOST)) {
                 return INVALID_ARGUMENT;
+            }
+            if (reasonAgainst(sailor, item, many) != 0) {
+                return NOT_POSSIBLE;
             }
             int coins = many * item.price;
             item.giveOut(many, coins);
@@ -639,6 +638,10 @@ public final class PurserLedgers {
             if (sailor == null || item == null || !within(many, 1, MANY_AT_MOST)) {
                 return INVALID_ARGUMENT;
             }
+            return reasonAgainst(sailor, item, many);
+        }
+
+        private int reasonAgainst(Sailor sailor, Item item, int many) {
             if (sailor.whereabouts != ABOARD) {
                 return 1;
             }

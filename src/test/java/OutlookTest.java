@@ -70,6 +70,13 @@ public final class OutlookTest {
         x.fine(0, 60);
         Due.is("on the bound", x.most(0, 0), 0);
         x.undo();
+        PurserLedgers y = new PurserLedgers();
+        y.sign(0, 0);
+        y.stock(0, 9, 1);
+        y.fine(0, 51);
+        Due.is("1 coin below the bound, at a price of 1", y.most(0, 0), 0);
+        y.set(0, 60);
+        Due.is("9 coins above it", y.most(0, 0), 9);
         x.set(0, 500);
         Due.is("all in stock", x.most(0, 0), 40);
         x.stock(1, 99, 1);
@@ -185,6 +192,23 @@ public final class OutlookTest {
         x.port();
         Due.is("as was told", x.payOff(), 17);
         Due.is("no change", x.undo(), 3);
+        PurserLedgers y = new PurserLedgers();
+        y.sign(0, 0);
+        y.fine(0, 1);
+        Due.is("the first sailor: debts", y.ifPaidOff(2), 1);
+        Due.is("the first sailor: who", y.ifPaidOff(3), 1);
+        y.days(1);
+        Due.is("half a coin is none", y.payOff(), 0);
+        Due.is("a debt of 1 is carried", y.sailor(0, 11), 1);
+        y.days(4);
+        Due.is("the first sailor: paid", y.ifPaidOff(0), 1);
+        Due.is("1 / 2", y.fine(0, 1), 5000);
+        Due.is("1 / 2", y.share(), Float.floatToIntBits(0.5f));
+        y.undo();
+        y.undo();
+        y.days(2);
+        y.fine(0, 3);
+        Due.is("earned 1, charged 3", y.share(), Float.floatToIntBits(3f));
     }
 
     private static void poorest() {

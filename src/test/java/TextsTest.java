@@ -146,6 +146,12 @@ public final class TextsTest {
         fault("o;p", 2, 1, 1);
         fault("d1;d12", 3, 1, 3);
         fault("d1234", 0, 1, 4);
+        PurserLedgers y = crew();
+        Due.write(y, "d1;o;p;");
+        Due.write(y, "d1");
+        Due.is("what was typed before is not read", y.fault(2), 2);
+        y.clearText();
+        Due.is("what was typed before is not read", y.fault(2), Due.NOT_FOUND);
         PurserLedgers x = crew();
         Due.write(x, "d1;d1;d1;d1;d1;d1;d1;d1;d1;d1;d1;d1;d1;d1;d1;d1;d1;d1;d1;d11");
         Due.is("60 characters", x.count(18), 60);
