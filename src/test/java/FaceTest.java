@@ -59,7 +59,7 @@ public final class FaceTest {
     }
 
     private static void privateNames() {
-        Set<String> names = new TreeSet<>(Arrays.asList(Model.NAMES));
+        Set<String> names = new TreeSet<>(Arrays.asList(Calls.NAMES));
         for (Method m : PurserLedgers.class.getDeclaredMethods()) {
             Due.is(m + " bears no public name", Modifier.isPrivate(m.getModifiers()) && names.contains(m.getName()) ? 1 : 0,
                     0);

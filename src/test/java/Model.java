@@ -9,10 +9,6 @@ import java.util.regex.Pattern;
  * entry, texts by regular expressions, what would be by doing it to a copy.
  */
 final class Model {
-    static final String[] NAMES = {"sign", "stock", "sell", "advance", "fine", "fineWatch", "leave", "back", "sail",
-        "port", "days", "dismiss", "payOff", "set", "sailor", "item", "book", "why", "most", "clearIn", "ifPaidOff",
-        "poorest", "share", "count", "undo", "type", "clearText", "fault", "play"};
-
     private static final int INVALID = Due.INVALID;
     private static final int NOT_POSSIBLE = Due.NOT_POSSIBLE;
     private static final int LIMIT = Due.LIMIT;
@@ -178,7 +174,7 @@ final class Model {
     }
 
     int call(int which, int a, int b, int c) {
-        String name = NAMES[which];
+        String name = Calls.NAMES[which];
         Model before = copy();
         int answer = answer(name, a, b, c);
         boolean changes = which <= 13 || name.equals("play");
@@ -599,39 +595,5 @@ final class Model {
         String letters = "hbvafdlrope";
         String[] calls = {"sign", "stock", "sell", "advance", "fine", "days", "leave", "back", "sail", "port", "payOff"};
         return change(calls[letters.indexOf(order.charAt(0))], n[0], n[1], n[2]);
-    }
-
-    static int ask(PurserLedgers x, int which, int a, int b, int c) {
-        switch (NAMES[which]) {
-            case "sign": return x.sign(a, b);
-            case "stock": return x.stock(a, b, c);
-            case "sell": return x.sell(a, b, c);
-            case "advance": return x.advance(a, b);
-            case "fine": return x.fine(a, b);
-            case "fineWatch": return x.fineWatch(a, b);
-            case "leave": return x.leave(a);
-            case "back": return x.back(a, b);
-            case "sail": return x.sail();
-            case "port": return x.port();
-            case "days": return x.days(a);
-            case "dismiss": return x.dismiss(a);
-            case "payOff": return x.payOff();
-            case "set": return x.set(a, b);
-            case "sailor": return x.sailor(a, b);
-            case "item": return x.item(a, b);
-            case "book": return x.book(a, b);
-            case "why": return x.why(a, b, c);
-            case "most": return x.most(a, b);
-            case "clearIn": return x.clearIn(a);
-            case "ifPaidOff": return x.ifPaidOff(a);
-            case "poorest": return x.poorest(a);
-            case "share": return x.share();
-            case "count": return x.count(a);
-            case "undo": return x.undo();
-            case "type": return x.type(a);
-            case "clearText": return x.clearText();
-            case "fault": return x.fault(a);
-            default: return x.play();
-        }
     }
 }

@@ -1,20 +1,27 @@
 /** Runs of many calls: the class answers as the model does. Every run is the same each time. */
 public final class ModelTest {
-    private static final int RUNS = 400;
-    private static final int CALLS = 512;
+    private static final int RUNS = 4000;
     private static final int SIGN = 0;
     private static final int BACK = 7;
     private static final int SAIL = 8;
     private static final int DISMISS = 11;
+    private static final int SAILOR = 14;
+    private static final int ITEM = 15;
+    private static final int BOOK = 16;
+    private static final int MOST = 18;
+    private static final int CLEAR_IN = 19;
+    private static final int IF_PAID_OFF = 20;
+    private static final int POOREST = 21;
+    private static final int SHARE = 22;
     private static final int COUNT = 23;
     private static final int TYPE = 25;
     private static final int CLEAR_TEXT = 26;
-    private static final int FAULT = 27;
-    private static final int PLAY = 28;
+    private static final int FAULT = Calls.FAULT;
+    private static final int PLAY = Calls.PLAY;
 
     private static long seed;
-    private static int[] answered = new int[Model.NAMES.length];
-    private static int[] refused = new int[Model.NAMES.length];
+    private static int[] answered = new int[Calls.NAMES.length];
+    private static int[] refused = new int[Calls.NAMES.length];
 
     public static void main(String[] args) {
         for (int run = 0; run < RUNS; run++) {
@@ -22,11 +29,11 @@ public final class ModelTest {
             oneRun(run);
         }
         for (int which = 0; which < answered.length; which++) {
-            Due.is(Model.NAMES[which] + " was often answered", answered[which] >= 300 ? 1 : 0, 1);
+            Due.is(Calls.NAMES[which] + " was often answered", answered[which] >= 300 ? 1 : 0, 1);
         }
         if (args.length > 0) {
             for (int which = 0; which < answered.length; which++) {
-                System.out.println(Model.NAMES[which] + ": answered " + answered[which] + ", refused " + refused[which]);
+                System.out.println(Calls.NAMES[which] + ": answered " + answered[which] + ", refused " + refused[which]);
             }
         }
         Due.end("ModelTest");
@@ -38,12 +45,14 @@ public final class ModelTest {
     }
 
     private static void oneRun(int run) {
-        PurserLedgers x = new PurserLedgers();
+        Asked x = new Asked();
         Model model = new Model();
         int crew = 1 + below(16);
+        // In some runs everything is asked at the end.
+        int kept = run % 3 == 0 ? 300 : 0;
         String orders = "";
         int typed = 0;
-        for (int call = 0; call < CALLS; call++) {
+        while (x.callsLeft() > kept) {
             int which;
             int a;
             int b = second();
@@ -52,7 +61,7 @@ public final class ModelTest {
                 which = TYPE;
                 a = orders.charAt(typed);
                 typed++;
-            } else if (call < crew) {
+            } else if (Asked.CALLS_AT_MOST - x.callsLeft() < crew) {
                 which = SIGN;
                 a = below(4);
                 b = below(2);
@@ -71,51 +80,63 @@ public final class ModelTest {
                 }
                 b = b(which, b, run);
             }
-            String told = "run " + run + ", call " + call + ": " + Model.NAMES[which] + "(" + a + ", " + b + ", " + c + ")";
-            int want = model.call(which, a, b, c);
-            Due.is(told, Model.ask(x, which, a, b, c), want);
-            if (want < 0) {
-                refused[which]++;
-            } else if (which != PLAY) {
-                answered[which]++;
-            }
-            if (typed == orders.length() && which == TYPE) {
+            compare(run, x, model, which, a, b, c);
+            if (which == TYPE && typed == orders.length()) {
                 for (int what = 0; what < 3; what++) {
-                    Due.is(told + " fault " + what, x.fault(what), model.call(FAULT, what, 0, 0));
+                    compare(run, x, model, FAULT, what, 0, 0);
                 }
-                int played = model.call(PLAY, 0, 0, 0);
-                Due.is(told + " play", x.play(), played);
-                answered[PLAY] += played > 0 ? 1 : 0;
+                answered[PLAY] += compare(run, x, model, PLAY, 0, 0, 0) > 0 ? 1 : 0;
+            } else if (Calls.isChange(which)) {
+                askSomething(run, x, model, crew);
             }
-            if (call % 16 == 15) {
-                all(x, model, told);
-            }
+        }
+        askAll(run, x, model);
+    }
+
+    private static int compare(int run, Asked x, Model model, int which, int a, int b, int c) {
+        if (x.callsLeft() <= 0) {
+            return 0;
+        }
+        String told = "run " + run + ", call " + (Asked.CALLS_AT_MOST - x.callsLeft()) + ": " + Calls.NAMES[which]
+                + "(" + a + ", " + b + ", " + c + ")";
+        int want = model.call(which, a, b, c);
+        Due.is(told, x.ask(which, a, b, c), want);
+        if (want < 0) {
+            refused[which]++;
+        } else if (which != PLAY) {
+            answered[which]++;
+        }
+        return want;
+    }
+
+    /** Two questions about what a change has mostly to do with. */
+    private static void askSomething(int run, Asked x, Model model, int crew) {
+        int[] often = {SAILOR, SAILOR, SAILOR, ITEM, BOOK, MOST, CLEAR_IN, IF_PAID_OFF, POOREST, SHARE, COUNT, COUNT, COUNT};
+        for (int k = 0; k < 2; k++) {
+            int which = often[below(often.length)];
+            int[] firsts = {crew, 6, 3, 20, crew, crew, 4, crew, 1, 23};
+            int[] seconds = {13, 5, 3, 6, 6, 1, 1, 1, 1, 1};
+            compare(run, x, model, which, below(firsts[which - SAILOR]), below(seconds[which - SAILOR]), 1 + below(9));
         }
     }
 
-    /** Everything that can be asked. */
-    private static void all(PurserLedgers x, Model model, String told) {
-        int[][] ranges = {{14, 16, 13}, {15, 6, 5}, {16, 9, 3}, {18, 16, 6}, {19, 16, 1}, {20, 4, 1}, {21, 17, 1},
-            {22, 1, 1}, {23, 23, 1}};
+    /** Everything that can be asked, as long as there are calls left. */
+    private static void askAll(int run, Asked x, Model model) {
+        int sailors = model.call(COUNT, 4, 0, 0);
+        int[][] ranges = {{COUNT, 23, 1}, {BOOK, 8, 3}, {IF_PAID_OFF, 4, 1}, {SHARE, 1, 1}, {POOREST, sailors + 1, 1},
+            {CLEAR_IN, sailors, 1}, {SAILOR, sailors, 13}, {ITEM, 6, 5}, {MOST, sailors, 6}};
         for (int[] range : ranges) {
             for (int a = 0; a < range[1]; a++) {
                 for (int b = 0; b < range[2]; b++) {
-                    Due.is(told + " then " + Model.NAMES[range[0]] + "(" + a + ", " + b + ")",
-                            Model.ask(x, range[0], a, b, 0), model.call(range[0], a, b, 0));
+                    compare(run, x, model, range[0], a, b, 0);
                 }
             }
-        }
-        for (int a = 0; a < 16; a++) {
-            int item = below(6);
-            int many = 1 + below(12);
-            Due.is(told + " then why(" + a + ", " + item + ", " + many + ")", x.why(a, item, many),
-                    model.call(17, a, item, many));
         }
     }
 
     private static int pick(int run) {
         int[] often = {0, 1, 1, 2, 2, 2, 3, 4, 5, 6, 7, 7, 8, 9, 9, 10, 10, 11, 12, 13, 14, 15, 16, 17, 18, 19, 20, 21,
-            22, 23, 24, 26, 27, 28};
+            22, 23, 24, 25, 26, 27, 28};
         int which = often[below(often.length)];
         // In some runs nearly nobody is sent away, and the ship lies in port for long.
         if (run % 2 == 0 && (which == DISMISS || which == SAIL) && below(4) > 0) {
@@ -137,7 +158,7 @@ public final class ModelTest {
         if (below(40) == 0) {
             return edge();
         }
-        switch (Model.NAMES[which]) {
+        switch (Calls.NAMES[which]) {
             case "sign": return below(4);
             case "stock": return below(2 + run % 5);
             case "item": return below(6);
@@ -147,6 +168,7 @@ public final class ModelTest {
             case "set":
             case "fault": return below(3);
             case "book": return below(10);
+            case "type": return below(2) == 0 ? 30 + below(4) : 124 + below(5);
             case "ifPaidOff": return below(4);
             case "count": return below(24);
             default: return below(crew + 1);
@@ -157,7 +179,7 @@ public final class ModelTest {
         if (below(30) == 0) {
             return edge();
         }
-        switch (Model.NAMES[which]) {
+        switch (Calls.NAMES[which]) {
             case "sign": return below(2);
             case "stock": return 1 + below(run % 4 == 1 ? 99 : 20);
             case "advance": return 1 + below(30);

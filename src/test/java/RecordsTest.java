@@ -2,11 +2,9 @@
 public final class RecordsTest {
     public static void main(String[] args) {
         sailor();
-        sailorRanges();
         wages();
         item();
         book();
-        bookRanges();
         Due.end("RecordsTest");
     }
 
@@ -40,18 +38,6 @@ public final class RecordsTest {
             Due.is("gone " + what, x.sailor(1, what), gone[what]);
         }
         Due.is("forfeit", x.count(15), 100008);
-    }
-
-    private static void sailorRanges() {
-        PurserLedgers x = new PurserLedgers();
-        Due.is("no sailor", x.sailor(0, 0), Due.INVALID);
-        x.sign(0, 0);
-        Due.is("sailor -1", x.sailor(-1, 0), Due.INVALID);
-        Due.is("sailor 1", x.sailor(1, 0), Due.INVALID);
-        Due.is("sailor 16", x.sailor(16, 0), Due.INVALID);
-        Due.is("what -1", x.sailor(0, -1), Due.INVALID);
-        Due.is("what 13", x.sailor(0, 13), Due.INVALID);
-        Due.is("what 12", x.sailor(0, 12), 0);
     }
 
     private static void wages() {
@@ -139,15 +125,5 @@ public final class RecordsTest {
         Due.is("undone", x.book(0, 2), 5);
         Due.is("undone", x.book(7, 1), 1);
         Due.is("8 are kept", x.count(16), 8);
-    }
-
-    private static void bookRanges() {
-        PurserLedgers x = new PurserLedgers();
-        Due.is("ago -1", x.book(-1, 0), Due.INVALID);
-        Due.is("what -1", x.book(0, -1), Due.INVALID);
-        Due.is("what 3", x.book(0, 3), Due.INVALID);
-        Due.is("invalid rather than not found", x.book(99, 3), Due.INVALID);
-        Due.is("none", x.book(0, 0), Due.NOT_FOUND);
-        Due.is("far away", x.book(Integer.MAX_VALUE, 0), Due.NOT_FOUND);
     }
 }

@@ -3,16 +3,12 @@ public final class ShipTest {
     public static void main(String[] args) {
         leave();
         back();
-        backRefusals();
         sail();
         port();
         days();
-        daysLimit();
         dismiss();
-        dismissRefusals();
         payOff();
         payOffCarriesDebts();
-        payOffRefusals();
         set();
         Due.end("ShipTest");
     }
@@ -75,27 +71,6 @@ public final class ShipTest {
         x.set(2, 0);
         Due.is("99 hours at 0", x.back(0, 99), 0);
         Due.is("no entry", x.count(16), 2);
-    }
-
-    private static void backRefusals() {
-        PurserLedgers x = twoOfEach();
-        Due.is("sailor -1", x.back(-1, 0), Due.INVALID);
-        Due.is("sailor 4", x.back(4, 0), Due.INVALID);
-        Due.is("hours -1", x.back(0, -1), Due.INVALID);
-        Due.is("hours 100", x.back(0, 100), Due.INVALID);
-        Due.is("aboard", x.back(0, 0), Due.NOT_POSSIBLE);
-        x.leave(0);
-        Due.is("of the other watch", x.back(1, 0), Due.NOT_POSSIBLE);
-        for (int k = 0; k < 4; k++) {
-            x.fine(0, 999);
-        }
-        Due.is("below -4000", x.back(0, 3), Due.NOT_POSSIBLE);
-        Due.is("still on leave", x.sailor(0, 2), 1);
-        Due.is("-4000", x.back(0, 2), 4);
-        Due.is("balance", x.sailor(0, 3), 6000);
-        x.sail();
-        Due.is("gone", x.back(2, 0), Due.NOT_POSSIBLE);
-        Due.is("gone, invalid", x.back(2, 100), Due.INVALID);
     }
 
     private static void sail() {
@@ -170,19 +145,6 @@ public final class ShipTest {
         Due.is("days of the voyage", x.count(2), 28);
     }
 
-    private static void daysLimit() {
-        PurserLedgers x = new PurserLedgers();
-        for (int k = 1; k <= 10; k++) {
-            Due.is("99 days", x.days(99), 99 * k);
-        }
-        Due.is("10 more", x.days(10), Due.LIMIT);
-        Due.is("invalid rather than limit", x.days(100), Due.INVALID);
-        Due.is("9 more", x.days(9), 999);
-        Due.is("1 more", x.days(1), Due.LIMIT);
-        Due.is("without sailors", x.payOff(), 0);
-        Due.is("on the next voyage", x.days(1), 1);
-    }
-
     private static void dismiss() {
         PurserLedgers x = twoOfEach();
         x.days(20);
@@ -210,25 +172,6 @@ public final class ShipTest {
         int entries = x.count(16);
         Due.is("with nothing", x.dismiss(0), 0);
         Due.is("no entry", x.count(16), entries);
-    }
-
-    private static void dismissRefusals() {
-        PurserLedgers x = twoOfEach();
-        Due.is("sailor -1", x.dismiss(-1), Due.INVALID);
-        Due.is("sailor 4", x.dismiss(4), Due.INVALID);
-        x.fine(0, 1);
-        Due.is("below 0", x.dismiss(0), Due.NOT_POSSIBLE);
-        x.days(1);
-        Due.is("0", x.dismiss(0), 0);
-        Due.is("gone", x.dismiss(0), Due.NOT_POSSIBLE);
-        x.sail();
-        Due.is("at sea", x.dismiss(1), Due.NOT_POSSIBLE);
-        Due.is("at sea, invalid", x.dismiss(4), Due.INVALID);
-        x.port();
-        x.stock(0, 99, 5);
-        x.days(99);
-        Due.is("2 * 1 and 2 * 99", x.dismiss(2), 200);
-        Due.is("cash was 5", x.count(9), 195);
     }
 
     private static void payOff() {
@@ -290,20 +233,6 @@ public final class ShipTest {
         Due.is("1, 14 and 28", x.payOff(), 43);
         Due.is("debt", x.sailor(0, 11), 0);
         Due.is("gone", x.sailor(3, 12), 24);
-    }
-
-    private static void payOffRefusals() {
-        PurserLedgers x = twoOfEach();
-        Due.is("without a day", x.payOff(), Due.NOT_POSSIBLE);
-        x.days(1);
-        x.sail();
-        Due.is("at sea", x.payOff(), Due.NOT_POSSIBLE);
-        x.port();
-        Due.is("paid off", x.payOff(), 6);
-        Due.is("without a day", x.payOff(), Due.NOT_POSSIBLE);
-        x.sail();
-        x.port();
-        Due.is("a port is no day", x.payOff(), Due.NOT_POSSIBLE);
     }
 
     private static void set() {

@@ -3,66 +3,48 @@ public final class WildArgumentsTest {
     private static final int[] WILD = {Integer.MIN_VALUE, Integer.MIN_VALUE + 1, -1000001, -65536, -100, -1, 0, 1, 2, 3,
         5, 6, 7, 8, 15, 16, 17, 31, 32, 60, 61, 99, 100, 126, 127, 255, 999, 1000, 65536, 1 << 30, Integer.MAX_VALUE - 1,
         Integer.MAX_VALUE};
+    private static final int[] FEW = {Integer.MIN_VALUE, -1, 0, 1, 99, 100, Integer.MAX_VALUE};
+    private static final int[] NONE = {0};
+    private static final String CREW = "sign 0 0 | sign 3 1 | stock 0 9 9 | days 99";
+    private static final String[] STATES = {"", CREW, CREW + " | leave 1 | type 100",
+        CREW + " | leave 1 | sail | write d1;x", CREW + " | leave 1 | sail | port | 14*sign 2 1 | 60*type 49"};
 
     public static void main(String[] args) {
-        for (int state = 0; state < 5; state++) {
-            for (int which = 0; which < Model.NAMES.length; which++) {
+        for (String state : STATES) {
+            for (int which = 0; which < Calls.NAMES.length; which++) {
                 askAll(state, which);
             }
         }
         Due.end("WildArgumentsTest");
     }
 
-    private static PurserLedgers inState(int state) {
-        PurserLedgers x = new PurserLedgers();
-        if (state > 0) {
-            x.sign(0, 0);
-            x.sign(3, 1);
-            x.stock(0, 9, 9);
-            x.days(99);
-        }
-        if (state > 1) {
-            x.leave(1);
-            x.type('d');
-        }
-        if (state > 2) {
-            x.sail();
-            Due.write(x, "d1;x");
-        }
-        if (state > 3) {
-            x.port();
-            for (int k = 0; k < 14; k++) {
-                x.sign(k % 4, k % 2);
-            }
-            for (int k = 0; k < 56; k++) {
-                x.type('1');
-            }
-        }
-        return x;
-    }
-
-    private static void askAll(int state, int which) {
-        PurserLedgers x = inState(state);
-        String before = Due.told(x);
-        boolean hasSecond = "sign stock sell advance fine fineWatch back set sailor item book why most".contains(
-                Model.NAMES[which]);
-        for (int a : WILD) {
-            for (int b : hasSecond ? WILD : new int[] {0}) {
-                for (int c : new int[] {Integer.MIN_VALUE, -1, 0, 1, 99, 100, Integer.MAX_VALUE}) {
-                    int answer = Model.ask(x, which, a, b, c);
-                    String told = "state " + state + " " + Model.NAMES[which] + "(" + a + ", " + b + ", " + c + ")";
-                    Due.is(told + " is an error code or not below 0", answer >= 0 || isError(answer) ? 1 : 0, 1);
-                    if (answer >= 0 && (which <= 13 || which >= 24)) {
-                        x = inState(state);
-                    } else if (a == WILD[0] || a == 0 || a == Integer.MAX_VALUE) {
-                        Due.same(told, Due.told(x), before);
-                    }
-                }
+    private static void askAll(String state, int which) {
+        String name = " " + Calls.NAMES[which] + " ";
+        boolean hasThree = " stock sell why ".contains(name);
+        boolean hasTwo = hasThree || " sign advance fine fineWatch back set sailor item book most ".contains(name);
+        boolean hasNone = " sail port payOff share undo clearText play ".contains(name);
+        for (int a : hasNone ? NONE : WILD) {
+            for (int b : hasTwo ? WILD : NONE) {
+                askRow(state, which, a, b, hasThree ? FEW : NONE);
             }
         }
     }
 
-    private static boolean isError(int answer) {
-        return answer >= Due.NOT_FOUND && answer <= Due.INVALID;
+    /** Refused calls leave the object as it was, so that it is asked once more. */
+    private static void askRow(String state, int which, int a, int b, int[] row) {
+        String before = Asked.after(state).told();
+        Asked x = Asked.after(state);
+        for (int c : row) {
+            int answer = x.ask(which, a, b, c);
+            String told = state + " | " + Calls.NAMES[which] + " " + a + " " + b + " " + c;
+            boolean isError = answer >= Due.NOT_FOUND && answer <= Due.INVALID;
+            Due.is(told + " is an error code or not below 0", answer >= 0 || isError ? 1 : 0, 1);
+            if (answer >= 0 && !Calls.isQuestion(which)) {
+                x = Asked.after(state);
+            }
+        }
+        if (x.callsLeft() > 0) {
+            Due.same(state + " | " + Calls.NAMES[which] + " " + a + " " + b + ", refused", x.told(), before);
+        }
     }
 }
