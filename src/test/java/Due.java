@@ -1,9 +1,13 @@
+import java.util.Map;
+
 /** Counts answers that are not as due, and ends a test with them. */
 final class Due {
     static final int INVALID = -1000001;
     static final int NOT_POSSIBLE = -1000002;
     static final int LIMIT = -1000003;
     static final int NOT_FOUND = -1000004;
+    static final Map<String, Integer> CONSTANTS = Map.of("INVALID_ARGUMENT", INVALID, "NOT_POSSIBLE", NOT_POSSIBLE,
+            "LIMIT_REACHED", LIMIT, "NOT_FOUND", NOT_FOUND);
 
     private static String sentence = "";
     private static int sentences = 0;

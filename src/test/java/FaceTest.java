@@ -5,6 +5,7 @@ import java.lang.reflect.Method;
 import java.lang.reflect.Modifier;
 import java.nio.file.Files;
 import java.nio.file.Path;
+import java.util.ArrayList;
 import java.util.Arrays;
 import java.util.List;
 import java.util.Set;
@@ -19,6 +20,8 @@ public final class FaceTest {
     public static void main(String[] args) throws IOException {
         members();
         privateNames();
+        lines();
+        headings();
         source();
         Due.end("FaceTest");
     }
@@ -75,6 +78,34 @@ public final class FaceTest {
                 Due.is(m + " has at most 7 parameters", m.getParameterCount() <= 7 ? 1 : 0, 1);
             }
         }
+    }
+
+    /** Line by line, so that names of arguments and the order count, too. */
+    private static void lines() throws IOException {
+        StringBuilder lines = new StringBuilder();
+        for (String line : Files.readAllLines(Path.of(SOURCE))) {
+            if (line.startsWith("    public ")) {
+                lines.append(line.strip().replaceAll(" \\{$", ";")).append('\n');
+            }
+        }
+        Due.is("lines of the document's face", Document.faceLines().size(), 34);
+        Due.same("the face", lines.toString(), String.join("\n", Document.faceLines()) + "\n");
+    }
+
+    private static void headings() throws IOException {
+        List<String> headings = new ArrayList<>();
+        for (String line : Files.readAllLines(Path.of(SOURCE))) {
+            Matcher call = Pattern.compile("    public int (\\w+)\\(.*").matcher(line);
+            int last = headings.size() - 1;
+            if (line.startsWith("    // ----")) {
+                headings.add(line.substring(7) + ":");
+            } else if (call.matches() && last >= 0) {
+                String sign = headings.get(last).endsWith(":") ? " " : ", ";
+                headings.set(last, headings.get(last) + sign + call.group(1));
+            }
+        }
+        Due.is("headings of the document", Document.headings().size(), 6);
+        Due.same("headings", String.join("\n", headings), String.join("\n", Document.headings()));
     }
 
     private static void source() throws IOException {
